@@ -412,7 +412,8 @@ public final class PromiseTest {
         String[] good = {"a", "#a", "@a_9", "a b", "a|b", "a | b|c d", "-a", "--a", "- - a", "-----------------------a",
             "\"a\"", "\" a b \"", "\"#a@b\"", "(a)", "( a )", "((((((a))))))", "(((a)))(((b)))(((c)))", "-(a|-b)", "=1",
             "<123456789", ">000000000", "=1a", "=1=2<3>4", "a=1", "a-b", "a#b", "a(b)\"c\"", " a", "a ", "  a   b  ",
-            "=1_2", "=1#2", "_", "9", "(((((a)(b)))))", "a|b|c|d|e|f|g|h|i|j|k|l", "=1=1=1=1=1=1=1=1=1=1=1=1",
+            "=1_2", "=1#2", "_", "9", "(((((a)(b)))))", "a|b|c|d|e|f|g|h|i|j|k|l",
+            "-a|b|c|d|e|f|g|h|i|j|k|l", "=1=1=1=1=1=1=1=1=1=1=1=1",
             "#a#a#a#a#a#a#a#a#a#a#a#a", "\"#a#a#a#a#a#a#a#a#a#a#a\"", "aaaaaaaaaaaaaaaaaaaaaaaa"};
         for (String query : good) {
             due("search for " + query, begin(new PostIndex(), query), 0);
@@ -506,6 +507,31 @@ public final class PromiseTest {
         due("all twelve words", hits(x, "b b b b b b b b b b b b"), "2 1 0 ");
         due("twelve words, one fails", hits(x, "b b b b b b b b b b b z"), "");
         due("nothing of the query before", hits(x, "z"), "");
+        queriesStay();
+    }
+
+    private static void queriesStay() {
+        PostIndex x = new PostIndex();
+        addWritten(x, 2, "a");
+        addWritten(x, 1, "b");
+        begin(x, "a");
+        begin(x, "b");
+        due("malformed", begin(x, "c |"), -1);
+        x.clear();
+        due("left of the first query", x.left(0), 2);
+        due("left of the second query", x.left(1), 1);
+        begin(x, "a|b");
+        due("refused", begin(x, "c"), -2);
+        due("left of the first query", x.left(0), 2);
+        due("left of the second query", x.left(1), 1);
+        due("left of the third query", x.left(2), 3);
+        x.clear();
+        x.close(1);
+        begin(x, "-b");
+        due("malformed", begin(x, "("), -1);
+        due("left of the new query", x.left(1), 2);
+        due("left of the third query", x.left(2), 3);
+        due("next of the first query", x.next(0), 1);
     }
 
     private static void rowsOfWords() {

@@ -3,8 +3,10 @@ public final class PostIndex {
     private static final int LEAST_CODE = 32;
     private static final int GREATEST_CODE = 126;
     private static final int TEXT_ROOM = 24;
-    // Every token but the first needs a character before it that ends the one before, so 12 fill a text.
+    // Between two tokens, or two words of a query, stands a character that is none of a word, so 12 fill a text.
     private static final int TEXT_TOKENS = 12;
+    // Each word, row, filter and - has a character of its own, and to join them takes fewer steps than they are.
+    private static final int QUERY_STEPS = 2 * TEXT_ROOM;
     private static final int TOKEN_PLACES = 8;
     private static final int ALL_PLACES = 255;
     private static final int AUTHORS = 10;
@@ -493,10 +495,9 @@ public final class PostIndex {
         private int wordCount;
 
         Query() {
-            // n words and filters need 2 * n - 1 characters and make n + (n - 1) steps; each step more is a - more.
-            kinds = new int[TEXT_ROOM];
-            numbers = new int[TEXT_ROOM];
-            wordEnds = new int[TEXT_ROOM];
+            kinds = new int[QUERY_STEPS];
+            numbers = new int[QUERY_STEPS];
+            wordEnds = new int[QUERY_STEPS];
             words = new Text[TEXT_TOKENS];
             for (int i = 0; i < TEXT_TOKENS; i++) {
                 words[i] = new Text();
@@ -523,7 +524,7 @@ public final class PostIndex {
         }
 
         boolean addStep(int kind, int number) {
-            if (stepCount >= TEXT_ROOM) {
+            if (stepCount >= QUERY_STEPS) {
                 return false;
             }
             kinds[stepCount] = kind;
@@ -533,7 +534,7 @@ public final class PostIndex {
             return true;
         }
 
-        /** What is worked out but not yet joined lies in the bits of an int: there are never more than 12 of them. */
+        /** What is worked out but not yet joined lies in the bits of an int: it is no more than the text's characters. */
         boolean matches(Post post, Segment segment, int slot) {
             int results = 0;
             for (int step = 0; step < stepCount; step++) {

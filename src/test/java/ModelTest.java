@@ -17,6 +17,9 @@ public final class ModelTest {
     private static final int RUNS = 4000;
     // A round makes up to six calls, and an object has 512.
     private static final int CALLS = 506;
+    private static final int CROWDED_RUNS = 3000;
+    private static final String SHORT_CHARACTERS = "a1-|()\"= #";
+    private static final int SHORT_LENGTH = 5;
 
     public static void main(String[] args) {
         Map<String, Integer> seen = new LinkedHashMap<>();
@@ -35,6 +38,38 @@ public final class ModelTest {
             }
         }
         System.out.println(RUNS + " runs are as due");
+        crowdedQueries();
+        shortQueries();
+    }
+
+    private static void crowdedQueries() {
+        for (int run = 0; run < CROWDED_RUNS; run++) {
+            Run one = new Run(run, new LinkedHashMap<>());
+            one.playCrowded();
+            if (one.failed) {
+                System.exit(1);
+            }
+        }
+        System.out.println(CROWDED_RUNS + " runs with crowded queries are as due");
+    }
+
+    /** Every text of a few characters: what is of the form and what is not. */
+    private static void shortQueries() {
+        List<String> queries = new ArrayList<>(List.of(""));
+        for (int from = 0; queries.get(from).length() < SHORT_LENGTH; from++) {
+            for (char c : SHORT_CHARACTERS.toCharArray()) {
+                queries.add(queries.get(from) + c);
+            }
+        }
+        int perRun = 24;
+        for (int from = 0; from < queries.size(); from += perRun) {
+            Run one = new Run(from, new LinkedHashMap<>());
+            one.playQueries(queries.subList(from, Math.min(from + perRun, queries.size())));
+            if (one.failed) {
+                System.exit(1);
+            }
+        }
+        System.out.println(queries.size() + " short queries are as due");
     }
 
     /** One object, its model, and calls chosen by a seed. */
@@ -71,9 +106,7 @@ public final class ModelTest {
                         break;
                     case 4:
                         if (random.nextInt(3) == 0) {
-                            real.clear();
-                            model.draft.setLength(0);
-                            calls++;
+                            clear();
                         } else {
                             begin();
                         }
@@ -120,6 +153,64 @@ public final class ModelTest {
                         break;
                 }
             }
+        }
+
+        /** Queries that are of the form and use the draft's 24 characters up. */
+        void playCrowded() {
+            List<String> queries = new ArrayList<>();
+            for (int i = 0; i < 12; i++) {
+                queries.add(crowdedQuery());
+            }
+            playQueries(queries);
+            if (model.begun != queries.size()) {
+                failed = true;
+                System.out.println("crowded run " + number + " has malformed queries: " + queries);
+            }
+        }
+
+        void playQueries(List<String> queries) {
+            for (String text : List.of("a", "1 a", "#a b", "b")) {
+                typeAll(text);
+                same("post", real.post(author(), time()), model.post(lastAuthor, lastTime));
+                same("write", real.write(6), model.write(6));
+                clear();
+            }
+            for (String query : queries) {
+                typeAll(query);
+                begin();
+                same("left", real.left(0), model.left(0));
+                same("next", real.next(0), model.next(0));
+                same("left", real.left(0), model.left(0));
+                same("close", real.close(0), model.close(0));
+                clear();
+            }
+        }
+
+        private void clear() {
+            real.clear();
+            model.draft.setLength(0);
+            calls++;
+        }
+
+        private String crowdedQuery() {
+            List<String> pieces = List.of("-", "(", "a", "b", "_", "#a", "=1", "<2", ">0", "\"a b\"", "-", "a", "|", ")");
+            StringBuilder query = new StringBuilder();
+            int open = 0;
+            boolean partDue = true;
+            while (partDue || query.length() + open < 24) {
+                String piece = pieces.get(random.nextInt(pieces.size() - (partDue ? 2 : 0)));
+                boolean begins = piece.equals("-") || piece.equals("(") || piece.equals("|");
+                boolean closes = piece.equals(")");
+                int room = 24 - query.length() - open;
+                int needed = closes ? 0 : piece.length() + (begins ? 1 : 0) + (piece.equals("(") ? 1 : 0);
+                if (needed > room || closes && open == 0 || piece.equals("(") && open == 6) {
+                    continue;
+                }
+                query.append(piece);
+                open += piece.equals("(") ? 1 : closes ? -1 : 0;
+                partDue = begins;
+            }
+            return query.append(")".repeat(open)).toString();
         }
 
         private void begin() {

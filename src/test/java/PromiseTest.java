@@ -26,6 +26,7 @@ public final class PromiseTest {
         search();
         searchLimits();
         wellFormed();
+        longestQueries();
         malformed();
         next();
         matching();
@@ -418,6 +419,31 @@ public final class PromiseTest {
         for (String query : good) {
             due("search for " + query, begin(new PostIndex(), query), 0);
         }
+    }
+
+    /** As many parts as 24 characters hold, of each kind: none is too many. */
+    private static void longestQueries() {
+        promise = 11;
+        PostIndex x = new PostIndex();
+        add(x, 1, 5, "a");
+        add(x, 2, 6, "b");
+        add(x, 1, 7, "b c");
+        writeAll(x);
+        due("nine parts, eight with -", hits(x, "a-a-a-a-a-a-a-a-a"), "");
+        due("nine other parts, eight with -", hits(x, "b-a-a-a-a-a-a-a-a"), "2 1 ");
+        due("twelve parts with -", hits(x, "-a-a-a-a-a-a-a-a-a-a-a-a"), "2 1 ");
+        due("twelve parts with -, the last one fails", hits(x, "-a-a-a-a-a-a-a-a-a-a-a-c"), "1 ");
+        due("thirteen parts, words and filters", hits(x, "a=1a=1a=1a=1a=1a=1a"), "0 ");
+        due("sixteen parts, words and filters", hits(x, "=1b=1b=1b=1b=1b=1b=1b=1b"), "2 ");
+        due("sixteen parts, the last one fails", hits(x, "=1b=1b=1b=1b=1b=1b=1b=1c"), "2 ");
+        due("sixteen parts, filters last", hits(x, "b>5b>5b>5b>5b>5b>5b>5b>6"), "2 ");
+        due("words, filters and -", hits(x, "-a=1b-a=1b-a=1b-a=1b-a=1"), "2 ");
+        due("twelve alls with -", hits(x, "-b|c|c|c|c|c|c|c|c|c|c|c"), "2 0 ");
+        due("eight alls with -", hits(x, "-b|-c|-b|-c|-b|-c|-b|-c"), "1 0 ");
+        due("- before each bracket", hits(x, "-(-(-(-(-(-(-a-a))))))-a"), "2 1 ");
+        due("open brackets behind parts", hits(x, "b(-a(b(-a(-a(b(-a))))))"), "2 1 ");
+        due("open brackets behind alls", hits(x, "c|(c|(c|(c|(c|(c|a)))))"), "2 0 ");
+        due("open brackets behind parts of alls", hits(x, "z|b(z|b(z|b(z|b(c))))"), "2 ");
     }
 
     private static void malformed() {

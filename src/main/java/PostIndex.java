@@ -534,7 +534,7 @@ public final class PostIndex {
             return true;
         }
 
-        /** What is worked out but not yet joined lies in the bits of an int: it is no more than the text's characters. */
+        /** What is worked out but not yet joined lies in the bits of an int: fewer than the text's characters. */
         boolean matches(Post post, Segment segment, int slot) {
             int results = 0;
             for (int step = 0; step < stepCount; step++) {

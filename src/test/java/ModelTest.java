@@ -214,9 +214,8 @@ public final class ModelTest {
         }
 
         private void begin() {
-            String query = model.draft.toString();
+            log.append("query '").append(model.draft).append("'\n");
             same("search", real.search(), model.search());
-            log.append("   of '").append(query).append("'\n");
         }
 
         private void lookAtSegment() {

@@ -1,10 +1,13 @@
+import java.util.function.ToIntBiFunction;
+
 /** One test for each sentence of the sections "Promise 1" to "Promise 18" that names a boundary case. */
 public final class BoundaryTest {
-    private static final int[] NO_POSTS = {-1, 24, 25, Integer.MIN_VALUE, Integer.MAX_VALUE};
-    private static final int[] NO_PLACES = {-1, 3, 4, Integer.MIN_VALUE, Integer.MAX_VALUE};
-    private static final int[] NO_UNITS = {0, -1, -6, 7, 8, 12, Integer.MIN_VALUE, Integer.MAX_VALUE};
-    private static final int[] NO_SEGMENTS = {-1, -3, 6, 7, 8, Integer.MIN_VALUE, Integer.MAX_VALUE};
-    private static final int[] NO_AUTHORS = {-1, 10, 11, 100, Integer.MIN_VALUE, Integer.MAX_VALUE};
+    // Among the numbers that are far off are some that are small ones if only their low bits are kept, or once multiplied.
+    private static final int[] NO_POSTS = {-1, -24, 24, 25, 256, 65536, 1 << 30, Integer.MIN_VALUE, Integer.MAX_VALUE};
+    private static final int[] NO_PLACES = {-1, -3, 3, 4, 256, 65536, 1 << 30, Integer.MIN_VALUE, Integer.MAX_VALUE};
+    private static final int[] NO_UNITS = {0, -1, -6, 7, 8, 257, 65537, (1 << 30) + 1, Integer.MIN_VALUE, Integer.MAX_VALUE};
+    private static final int[] NO_SEGMENTS = {-1, -3, 6, 7, 256, 65536, 1 << 30, Integer.MIN_VALUE, Integer.MAX_VALUE};
+    private static final int[] NO_AUTHORS = {-1, 10, 11, 256, 65536, 1 << 30, Integer.MIN_VALUE, Integer.MAX_VALUE};
 
     public static void main(String[] args) {
         newObject();
@@ -42,7 +45,7 @@ public final class BoundaryTest {
     }
 
     private static void newObject() {
-        Due.sentence("PostIndex(): An empty draft, no posts, no searches.");
+        Due.sentence("Promise 1", "PostIndex(): An empty draft, no posts, no searches.");
         String nothing = "0 0 | -1 -1 -1 -1 | -1 -1 -1 -1 | -1 -1 -1 -1 | -1 -1 -1 -1 | -1 -1 -1 -1 | -1 -1 -1 -1 / -1 / -1 / -1";
         Index x = new Index();
         Due.same("state", x.state(), nothing);
@@ -65,7 +68,7 @@ public final class BoundaryTest {
     }
 
     private static void typeRefused() {
-        Due.sentence("true; false (refused) when it is not 32 .. 126 or 24 characters are there.");
+        Due.sentence("Promise 2", "true; false (refused) when it is not 32 .. 126 or 24 characters are there.");
         Index x = new Index();
         for (int count = 0; count < 24; count++) {
             Due.same("length", x.x().length(), count);
@@ -86,7 +89,7 @@ public final class BoundaryTest {
     }
 
     private static void quoteRoom() {
-        Due.sentence("Appends the beginning of the text of a post to the draft, as much as there is room for, and answers how many "
+        Due.sentence("Promise 3", "Appends the beginning of the text of a post to the draft, as much as there is room for, and answers how many "
                 + "characters that was.");
         for (int before = 0; before <= 24; before++) {
             String typed = "xxxxxxxxxxxxxxxxxxxxxxx_".substring(24 - before);
@@ -121,7 +124,7 @@ public final class BoundaryTest {
     }
 
     private static void quoteRefused() {
-        Due.sentence("-1 (refused) if the post is none, not published, not live, or erased.");
+        Due.sentence("Promise 3", "-1 (refused) if the post is none, not published, not live, or erased.");
         Index x = new Index().typed("z");
         for (int post : NO_POSTS) {
             Due.same("quote " + post, x.x().quote(post), -1);
@@ -159,7 +162,7 @@ public final class BoundaryTest {
     }
 
     private static void clear() {
-        Due.sentence("Makes the draft empty.");
+        Due.sentence("Promise 4", "Makes the draft empty.");
         Index x = new Index();
         x.x().clear();
         Due.same("an empty draft", x.x().length(), 0);
@@ -177,7 +180,7 @@ public final class BoundaryTest {
     }
 
     private static void length() {
-        Due.sentence("The number of characters of the draft.");
+        Due.sentence("Promise 5", "The number of characters of the draft.");
         Index x = new Index();
         Due.same("none", x.x().length(), 0);
         for (int count = 1; count <= 24; count++) {
@@ -189,7 +192,7 @@ public final class BoundaryTest {
     }
 
     private static void postFromEmptyDraft() {
-        Due.sentence("Makes the draft a post, which waits; the draft is empty then (it may be empty before).");
+        Due.sentence("Promise 6", "Makes the draft a post, which waits; the draft is empty then (it may be empty before).");
         Index x = new Index();
         Due.same("post of an empty draft", x.x().post(0, 0), 0);
         Due.same("length", x.x().length(), 0);
@@ -210,7 +213,7 @@ public final class BoundaryTest {
     }
 
     private static void postRefusedByAuthor() {
-        Due.sentence("-1 (refused) if author is not 0 .. 9, ");
+        Due.sentence("Promise 6", "-1 (refused) if author is not 0 .. 9, ");
         Index x = new Index();
         for (int author : NO_AUTHORS) {
             Due.same("post by " + author, x.x().post(author, 0), -1);
@@ -224,7 +227,7 @@ public final class BoundaryTest {
     }
 
     private static void postRefusedByWaiting() {
-        Due.sentence("four posts are waiting, ");
+        Due.sentence("Promise 6", "four posts are waiting, ");
         Index x = new Index();
         for (int number = 0; number < 4; number++) {
             Due.same("post", x.post(0, 0, "a"), number);
@@ -243,7 +246,7 @@ public final class BoundaryTest {
     }
 
     private static void postRefusedByMade() {
-        Due.sentence("or 24 were made.");
+        Due.sentence("Promise 6", "or 24 were made.");
         Index x = new Index().written(23, "");
         for (int author : NO_AUTHORS) {
             Due.same("refused ones don't count", x.x().post(author, 0), -1);
@@ -256,7 +259,7 @@ public final class BoundaryTest {
     }
 
     private static void writeFewer() {
-        Due.sentence("The writer does n units of work, or fewer, if no post is waiting any more.");
+        Due.sentence("Promise 7", "The writer does n units of work, or fewer, if no post is waiting any more.");
         for (int n = 1; n <= 6; n++) {
             Index x = new Index();
             Due.same("with none waiting", x.x().write(n), 0);
@@ -279,7 +282,7 @@ public final class BoundaryTest {
     }
 
     private static void writeWrongUnits() {
-        Due.sentence("write: Answers how many; 0 if n is not 1 .. 6.");
+        Due.sentence("Promise 7", "Answers how many; 0 if n is not 1 .. 6.");
         Index x = new Index().posted("a b c d e f g");
         for (int n : NO_UNITS) {
             Due.same("write " + n, x.x().write(n), 0);
@@ -296,7 +299,7 @@ public final class BoundaryTest {
     }
 
     private static void published() {
-        Due.sentence("How many posts were published.");
+        Due.sentence("Promise 8", "How many posts were published.");
         Index x = new Index();
         Due.same("none", x.x().published(), 0);
         for (int count = 1; count <= 24; count++) {
@@ -312,7 +315,7 @@ public final class BoundaryTest {
     }
 
     private static void eraseRefused() {
-        Due.sentence("true; false (refused) if it is none, not published, not live, or erased already.");
+        Due.sentence("Promise 9", "true; false (refused) if it is none, not published, not live, or erased already.");
         Index x = new Index();
         for (int post : NO_POSTS) {
             Due.same("erase " + post, x.x().erase(post), false);
@@ -349,7 +352,7 @@ public final class BoundaryTest {
     }
 
     private static void packFewer() {
-        Due.sentence("The second worker does n units of work, or fewer, if there is no segment for it any more.");
+        Due.sentence("Promise 10", "The second worker does n units of work, or fewer, if there is no segment for it any more.");
         for (int n = 1; n <= 6; n++) {
             Index x = new Index();
             Due.same("with no segment", x.x().pack(n), 0);
@@ -368,7 +371,7 @@ public final class BoundaryTest {
     }
 
     private static void packWrongUnits() {
-        Due.sentence("pack: Answers how many; 0 if n is not 1 .. 6.");
+        Due.sentence("Promise 10", "Answers how many; 0 if n is not 1 .. 6.");
         Index x = new Index().written("a b", "c d", "e f", "g h");
         for (int n : NO_UNITS) {
             Due.same("pack " + n, x.x().pack(n), 0);
@@ -385,7 +388,7 @@ public final class BoundaryTest {
     }
 
     private static void searchBound() {
-        Due.sentence("Begins a search with the draft as its query and published() as its bound");
+        Due.sentence("Promise 11", "Begins a search with the draft as its query and published() as its bound");
         Index x = new Index().posted("a");
         x.searching("a|-a");
         x.wrote(1);
@@ -405,7 +408,7 @@ public final class BoundaryTest {
     }
 
     private static void searchFreePlace() {
-        Due.sentence("in the free place with the least number, and answers that; the draft is empty then.");
+        Due.sentence("Promise 11", "in the free place with the least number, and answers that; the draft is empty then.");
         for (int free = 0; free < 8; free++) {
             Index x = new Index().written("a").searching("b").searching("b").searching("b");
             for (int place = 0; place < 3; place++) {
@@ -424,7 +427,7 @@ public final class BoundaryTest {
     }
 
     private static void searchMalformed() {
-        Due.sentence("-1 (refused) if the draft is malformed; ");
+        Due.sentence("Promise 11", "-1 (refused) if the draft is malformed; ");
         Index x = new Index();
         for (String bad : new String[] {"", "a|", "(a", "=", "a,b"}) {
             Due.same("a free place", x.typed(bad).x().search(), -1);
@@ -446,7 +449,7 @@ public final class BoundaryTest {
     }
 
     private static void searchNoPlace() {
-        Due.sentence("otherwise -2 (refused) if no place is free ");
+        Due.sentence("Promise 11", "otherwise -2 (refused) if no place is free ");
         Index x = new Index().searching("a").searching("a").searching("a").typed("b");
         Due.same("no free place", x.x().search(), -2);
         Due.same("no free place", x.x().search(), -2);
@@ -456,7 +459,7 @@ public final class BoundaryTest {
     }
 
     private static void searchTooMany() {
-        Due.sentence("or 24 searches were begun.");
+        Due.sentence("Promise 11", "or 24 searches were begun.");
         Index x = new Index().searching("a").searching("a").searching("a").typed("a");
         for (int i = 0; i < 30; i++) {
             Due.same("refused ones don't count", x.x().search(), -2);
@@ -474,7 +477,7 @@ public final class BoundaryTest {
     }
 
     private static void nextNone() {
-        Due.sentence("its number becomes the search's bound. -1 if there is none (the bound stays), ");
+        Due.sentence("Promise 12", "its number becomes the search's bound. -1 if there is none (the bound stays), ");
         Index x = new Index();
         x.searching("a");
         Due.same("no post", x.x().next(0), -1);
@@ -499,7 +502,7 @@ public final class BoundaryTest {
     }
 
     private static void nextNoSearch() {
-        Due.sentence("next: or no such place, or no search in it.");
+        Due.sentence("Promise 12", "or no such place, or no search in it.");
         Index x = new Index().written("a");
         for (int place = 0; place < 3; place++) {
             Due.same("no search in " + place, x.x().next(place), -1);
@@ -514,7 +517,7 @@ public final class BoundaryTest {
     }
 
     private static void left() {
-        Due.sentence("How many hits the search in a place has left: how often next() would answer a post, if nothing else happened between.");
+        Due.sentence("Promise 13", "How many hits the search in a place has left: how often next() would answer a post, if nothing else happened between.");
         Index x = new Index().written(24, "a");
         x.searching("a").searching("-a").searching("a|-a");
         Due.same("the most", x.x().left(0), 12);
@@ -539,7 +542,7 @@ public final class BoundaryTest {
     }
 
     private static void leftNoSearch() {
-        Due.sentence("left: -1 if there is no such place or no search in it.");
+        Due.sentence("Promise 13", "-1 if there is no such place or no search in it.");
         Index x = new Index().written("a");
         for (int place = 0; place < 3; place++) {
             Due.same("no search in " + place, x.x().left(place), -1);
@@ -554,7 +557,7 @@ public final class BoundaryTest {
     }
 
     private static void closeFrees() {
-        Due.sentence("Ends the search in a place, which is free then: true; ");
+        Due.sentence("Promise 14", "Ends the search in a place, which is free then: true; ");
         for (int place = 0; place < 3; place++) {
             Index x = new Index().written("a", "a").searching("a").searching("a").searching("a");
             Due.same("next", x.x().next(place), 1);
@@ -568,7 +571,7 @@ public final class BoundaryTest {
     }
 
     private static void closeNoSearch() {
-        Due.sentence("false if there is no such place or no search in it.");
+        Due.sentence("Promise 14", "false if there is no such place or no search in it.");
         Index x = new Index();
         for (int place = 0; place < 3; place++) {
             Due.same("no search in " + place, x.x().close(place), false);
@@ -584,7 +587,7 @@ public final class BoundaryTest {
     }
 
     private static void form() {
-        Due.sentence("-1 if segment g has not begun (or g is not 0 .. 5), 0 it is live and not full, 1 full and not packed, 2 the same, "
+        Due.sentence("Promise 15", "-1 if segment g has not begun (or g is not 0 .. 5), 0 it is live and not full, 1 full and not packed, 2 the same, "
                 + "and some term of it was rewritten, 3 packed (and live), 4 retired.");
         Index x = new Index();
         Due.same("not begun", x.x().form(0), -1);
@@ -610,24 +613,26 @@ public final class BoundaryTest {
         Due.same("full without terms", empty.x().form(0), 1);
         empty.packed(1);
         Due.same("packed without a term rewritten", empty.x().form(0), 3);
-        Index all = new Index();
+        noSegments("form", PostIndex::form);
+    }
+
+    /** However many segments have begun, these are none. */
+    private static void noSegments(String what, ToIntBiFunction<PostIndex, Integer> call) {
+        Index x = new Index();
         for (int count = 0; count <= 24; count++) {
             for (int g : NO_SEGMENTS) {
-                Due.same("form " + g, all.x().form(g), -1);
+                Due.same(what + " of " + g + " with " + count + " posts", call.applyAsInt(x.x(), g), -1);
             }
             if (count < 24) {
-                all.written("");
+                x.written("a");
             }
         }
-        Due.same("retired", all.x().form(0) + " " + all.x().form(1) + " " + all.x().form(2), "4 4 4");
     }
 
     private static void size() {
-        Due.sentence("size: -1 if it is not live.");
+        Due.sentence("Promise 16", "-1 if it is not live.");
+        noSegments("size", PostIndex::size);
         Index x = new Index().written(12, "a");
-        for (int g : NO_SEGMENTS) {
-            Due.same("size " + g, x.x().size(g), -1);
-        }
         Due.same("not begun", x.x().size(3), -1);
         Due.same("live", x.x().size(0), 6);
         x.packed(2).posted("a");
@@ -641,17 +646,12 @@ public final class BoundaryTest {
         for (int g = 0; g < 6; g++) {
             Due.same("size " + g, x.x().size(g), g < 3 ? -1 : 6);
         }
-        for (int g : NO_SEGMENTS) {
-            Due.same("size " + g, x.x().size(g), -1);
-        }
     }
 
     private static void terms() {
-        Due.sentence("How many terms a live segment has; -1 if it is not live.");
+        Due.sentence("Promise 17", "How many terms a live segment has; -1 if it is not live.");
+        noSegments("terms", PostIndex::terms);
         Index x = new Index().written(12, "a b");
-        for (int g : NO_SEGMENTS) {
-            Due.same("terms " + g, x.x().terms(g), -1);
-        }
         Due.same("not begun", x.x().terms(3), -1);
         Due.same("live", x.x().terms(0), 2);
         x.packed(3).posted("a");
@@ -667,17 +667,12 @@ public final class BoundaryTest {
         }
         x.x().erase(23);
         Due.same("with an erased post", x.x().terms(5), 2);
-        for (int g : NO_SEGMENTS) {
-            Due.same("terms " + g, x.x().terms(g), -1);
-        }
     }
 
     private static void postings() {
-        Due.sentence("How many postings the terms of a live segment have together; -1 if it is not live.");
+        Due.sentence("Promise 18", "How many postings the terms of a live segment have together; -1 if it is not live.");
+        noSegments("postings", PostIndex::postings);
         Index x = new Index().written(12, "a b");
-        for (int g : NO_SEGMENTS) {
-            Due.same("postings " + g, x.x().postings(g), -1);
-        }
         Due.same("not begun", x.x().postings(3), -1);
         Due.same("live", x.x().postings(0), 8);
         x.packed(3).posted("a");
@@ -693,8 +688,5 @@ public final class BoundaryTest {
         }
         x.x().erase(23);
         Due.same("with an erased post", x.x().postings(5), 8);
-        for (int g : NO_SEGMENTS) {
-            Due.same("postings " + g, x.x().postings(g), -1);
-        }
     }
 }

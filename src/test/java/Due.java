@@ -8,8 +8,9 @@ final class Due {
     private Due() {
     }
 
-    static void sentence(String words) {
-        sentence = words;
+    /** Where the sentence stands in the document, and its words. */
+    static void sentence(String where, String words) {
+        sentence = where + ", \"" + words.trim() + "\"";
         sentences++;
     }
 
@@ -17,7 +18,7 @@ final class Due {
         answers++;
         if (!got.equals(due)) {
             wrong++;
-            System.out.println("\"" + sentence + "\": " + what + " answered " + got + ", due is " + due);
+            System.out.println(sentence + ": " + what + " answered " + got + ", due is " + due);
         }
     }
 

@@ -813,7 +813,7 @@ public final class PromiseTest {
             add(x, 0, 0, text);
         }
         writeAll(x);
-        while (x.pack(6) > 0) {
+        for (int i = 0; i < 60 && x.pack(6) > 0; i++) {
             due("published", x.published(), 4);
         }
         due("form", x.form(0), 3);
@@ -917,9 +917,10 @@ public final class PromiseTest {
         }
     }
 
+    // Four posts wait at most, of thirteen units at most; the bound ends a test whose writer never does.
     private static void writeAll(PostIndex x) {
         int done = 6;
-        while (done == 6) {
+        for (int i = 0; i < 60 && done == 6; i++) {
             done = x.write(6);
         }
     }
@@ -938,7 +939,7 @@ public final class PromiseTest {
         int left = x.left(place);
         StringBuilder all = new StringBuilder();
         int hit = x.next(place);
-        while (hit >= 0) {
+        for (int i = 0; i < 24 && hit >= 0; i++) {
             all.append(hit).append(' ');
             left--;
             hit = x.next(place);

@@ -8,6 +8,7 @@ public final class QueryTest {
         filterPieces();
         singleCharacters();
         forms();
+        mostParts();
         otherCharacters();
         nothingFollows();
         tenDigits();
@@ -46,7 +47,7 @@ public final class QueryTest {
     }
 
     private static void spaces() {
-        Due.sentence("A QUERY is a text, read in pieces from left to right; spaces between pieces are left out.");
+        Due.sentence("Terms", "A QUERY is a text, read in pieces from left to right; spaces between pieces are left out.");
         wellFormed("a b", "a          b", " a", "a ", " a ", "a                      b", "                       a",
                 "a                       ", "a | b", "- a", "- - a", "-  ( a )", "( a )", "\" a \"", "\"a   b\"", " =1 ", "=1 <2 >3",
                 "( ( ( ( ( a ) ) ) ) )", "a |- b");
@@ -62,7 +63,7 @@ public final class QueryTest {
     }
 
     private static void words() {
-        Due.sentence("a word: one or more word characters, as many as follow, or # or @ and such a run");
+        Due.sentence("Terms", "a word: one or more word characters, as many as follow, or # or @ and such a run");
         for (char c : WORD_CHARACTERS.toCharArray()) {
             wellFormed("" + c, "#" + c, "@" + c, "a" + c, c + "a");
         }
@@ -78,7 +79,7 @@ public final class QueryTest {
     }
 
     private static void filterPieces() {
-        Due.sentence("a filter: one of = < > and directly behind it one or more digits, as many as follow, at most nine");
+        Due.sentence("Terms", "a filter: one of = < > and directly behind it one or more digits, as many as follow, at most nine");
         for (String sign : new String[] {"=", "<", ">"}) {
             String digits = "";
             for (int count = 1; count <= 9; count++) {
@@ -106,14 +107,14 @@ public final class QueryTest {
     }
 
     private static void singleCharacters() {
-        Due.sentence("and the single characters | - \" ( ).");
+        Due.sentence("Terms", "and the single characters | - \" ( ).");
         wellFormed("a|b", "a-b", "a\"b\"", "a(b)", "\"a\"\"b\"", "(a)(b)", "a|-b", "--a", "((a))", "\"a\"|\"b\"", "(a)|(b)", "-\"a\"", "-(a)",
                 "-=1", "a-b|c-d");
         malformed("||", "a||b", "--", "a--", "\"\"", "()", ")(", "a)(b");
     }
 
     private static void forms() {
-        Due.sentence("any: one all, or several with | between them. all: one or more parts. part: a one, or - before a part. "
+        Due.sentence("Terms", "any: one all, or several with | between them. all: one or more parts. part: a one, or - before a part. "
                 + "one: a word; or \" and one or more words and \"; or ( and any and ); or a filter.");
         wellFormed("a", "a|b", "a|b|c|d|e|f|g|h|i|j|k|l", "a b c d e f g h i j k l", "-a", "-----------------------a", "\"a\"",
                 "\"a b\"", "\"a b c d e f g h i j k\"", "(a)", "(a|b)", "(a b)", "(-a)", "(\"a\")", "(=1)", "((a))", "=1", "<1", ">1");
@@ -122,8 +123,30 @@ public final class QueryTest {
                 "\"a\"\"", "-----------------------", "a|\"\"", "(\"a)\"", "\"(a\")");
     }
 
+    /** No query that 24 characters can hold has too many parts. */
+    private static void mostParts() {
+        Due.sentence("Terms", "all: one or more parts.");
+        Index x = new Index().written("a", "b");
+        x.post(1, 7, "b c");
+        x.writeAll();
+        Due.same("twelve parts with -", x.hits("-a-a-a-a-a-a-a-a-a-a-a-a"), "2 1");
+        Due.same("twelve parts with -, the last one fails", x.hits("-a-a-a-a-a-a-a-a-a-a-a-c"), "1");
+        Due.same("twelve filters", x.hits("=1=1=1=1=1=1=1=1=1=1=1>6"), "2");
+        Due.same("twelve filters, the last one fails", x.hits("=0=0=0=0=0=0=0=0=0=0=0>6"), "");
+        Due.same("sixteen parts, filters and words", x.hits("=1b=1b=1b=1b=1b=1b=1b=1c"), "2");
+        Due.same("sixteen parts, the last one fails", x.hits("=1b=1b=1b=1b=1b=1b=1b=1a"), "");
+        Due.same("twelve words with #", x.hits("#a#a#a#a#a#a#a#a#a#a#a#a"), "");
+        Due.same("- before each all", x.hits("-b|-c|-b|-c|-b|-c|-b|-c"), "1 0");
+        Due.same("twelve alls", x.hits("-b|c|c|c|c|c|c|c|c|c|c|c"), "2 0");
+        Due.same("rows of one word", x.hits("\"b\"\"b\"\"b\"\"b\"\"b\"\"c\""), "2");
+        Due.same("brackets behind parts", x.hits("b(-a(b(-a(-a(b(-a))))))"), "2 1");
+        Due.same("brackets behind alls", x.hits("c|(c|(c|(c|(c|(c|a)))))"), "2 0");
+        Due.same("brackets behind parts of alls", x.hits("z|b(z|b(z|b(z|b(c))))"), "2");
+        Due.same("brackets one by one", x.hits("(b)(b)(b)(b)(b)(b)(b)(c)"), "2");
+    }
+
     private static void otherCharacters() {
-        Due.sentence("What is not of this form (other characters, ");
+        Due.sentence("Terms", "What is not of this form (other characters, ");
         for (char c = 32; c <= 126; c++) {
             boolean ofWord = WORD_CHARACTERS.indexOf(c) >= 0;
             formed(ofWord, "" + c);
@@ -146,7 +169,7 @@ public final class QueryTest {
     }
 
     private static void nothingFollows() {
-        Due.sentence("a # @ = < > without what must follow, ");
+        Due.sentence("Terms", "a # @ = < > without what must follow, ");
         for (char c : "#@=<>".toCharArray()) {
             malformed("" + c, "a" + c, "a " + c, c + " ", c + " a", c + " 1", c + "|a", "a|" + c, c + "-a", "-" + c, "(" + c + ")", c + "(a)",
                     "\"" + c + "\"", "\"a" + c + "\"", c + "" + c, c + "" + c + "1", "                       " + c);
@@ -155,7 +178,7 @@ public final class QueryTest {
     }
 
     private static void tenDigits() {
-        Due.sentence("ten digits, ");
+        Due.sentence("Terms", "ten digits, ");
         for (String sign : new String[] {"=", "<", ">"}) {
             wellFormed(sign + "123456789", sign + "000000000", sign + "123456789 0", sign + "123456789a0");
             malformed(sign + "1234567890", sign + "0000000000", sign + "0000000001", sign + "9999999999", sign + "12345678901",
@@ -166,7 +189,7 @@ public final class QueryTest {
     }
 
     private static void nothingAtAll() {
-        Due.sentence("nothing at all)");
+        Due.sentence("Terms", "nothing at all)");
         malformed("", " ", "  ", "                        ");
         Index x = new Index().written("");
         Due.same("search on an empty draft with posts there", x.x().search(), -1);
@@ -179,7 +202,7 @@ public final class QueryTest {
     }
 
     private static void openBrackets() {
-        Due.sentence("or has more than six ( open at a time, is MALFORMED.");
+        Due.sentence("Terms", "or has more than six ( open at a time, is MALFORMED.");
         String[] opens = {"", "(", "((", "(((", "((((", "(((((", "((((((", "(((((((", "((((((((", "(((((((((", "((((((((((", "((((((((((("};
         for (int open = 1; open < opens.length; open++) {
             String closes = opens[open].replace('(', ')');
@@ -197,7 +220,7 @@ public final class QueryTest {
     }
 
     private static void withinQuotes() {
-        Due.sentence("(Within \" only words may stand.)");
+        Due.sentence("Terms", "(Within \" only words may stand.)");
         wellFormed("\"a\"", "\"#a\"", "\"@a\"", "\"a #b @c 1 _\"", "\"1\"");
         for (String piece : new String[] {"|", "-", "(", ")", "(a)", "=1", "<1", ">1", "-a", "a|b", ",", "#"}) {
             malformed("\"" + piece + "\"", "\"a" + piece + "\"", "\"a " + piece + " b\"", "\"" + piece + " a\"");
@@ -205,7 +228,7 @@ public final class QueryTest {
     }
 
     private static void matchesWord() {
-        Due.sentence("A post MATCHES a word (capitals as small) if it is one of its tokens");
+        Due.sentence("Terms", "A post MATCHES a word (capitals as small) if it is one of its tokens");
         Index x = new Index().written("First middle LAST", "#first", "firs", "irst lastt");
         Due.same("the first token", x.hits("FIRST"), "0");
         Due.same("a middle token", x.hits("middle"), "0");
@@ -226,7 +249,7 @@ public final class QueryTest {
     }
 
     private static void matchesRow() {
-        Due.sentence("words in \" if there is a number p so that the first one has place p in the post, the second one place p + 1, and so on");
+        Due.sentence("Terms", "words in \" if there is a number p so that the first one has place p in the post, the second one place p + 1, and so on");
         Index x = new Index().written("a b c", "a c b", "b c", "a a b");
         Due.same("one word", x.hits("\"a\""), "3 1 0");
         Due.same("two words", x.hits("\"a b\""), "3 0");
@@ -250,10 +273,17 @@ public final class QueryTest {
         Index next = new Index().written("0 1 2 3 4 5 6 a", "b", "a", "b c");
         Due.same("a row doesn't go on in the next post", next.hits("\"a b\""), "");
         Due.same("nor back in the one before", next.hits("\"b a\""), "");
+        Index wide = new Index();
+        for (int pair = 0; pair < 12; pair++) {
+            wide.written("x a b", "a x b");
+        }
+        Due.same("in every second post", wide.hits("\"a b\""), "22 20 18 16 14 12");
+        wide.packAll();
+        Due.same("in every second post, packed", wide.hits("\"a b\""), "22 20 18 16 14 12");
     }
 
     private static void matchesAuthor() {
-        Due.sentence("=n if its author is n");
+        Due.sentence("Terms", "=n if its author is n");
         Index x = new Index();
         for (int author : new int[] {0, 1, 9, 1}) {
             x.x().post(author, 1 - author);
@@ -271,7 +301,7 @@ public final class QueryTest {
     }
 
     private static void matchesTime() {
-        Due.sentence("<n if its time is less than n, >n if it is greater than n");
+        Due.sentence("Terms", "<n if its time is less than n, >n if it is greater than n");
         Index x = new Index();
         int[] times = {6, 7, 8, 0, -1, Integer.MIN_VALUE, Integer.MAX_VALUE, 1000000000};
         for (int time : times) {
@@ -292,7 +322,7 @@ public final class QueryTest {
     }
 
     private static void matchesNot() {
-        Due.sentence("- and a part if it doesn't match the part");
+        Due.sentence("Terms", "- and a part if it doesn't match the part");
         Index x = new Index().written("a b", "b", "");
         x.post(3, 3, "a");
         x.writeAll();
@@ -312,7 +342,7 @@ public final class QueryTest {
     }
 
     private static void matchesAll() {
-        Due.sentence("an all if it matches each part");
+        Due.sentence("Terms", "an all if it matches each part");
         Index x = new Index().written("a", "b", "a b", "a b c d e f g h i j k l");
         Due.same("one part", x.hits("a"), "3 2 0");
         Due.same("two parts", x.hits("a b"), "3 2");
@@ -322,10 +352,14 @@ public final class QueryTest {
         Due.same("the first of twelve fails", x.hits("z b c d e f g h i j k l"), "");
         Due.same("the last of twelve fails", x.hits("a b c d e f g h i j k z"), "");
         Due.same("a part and what denies it", x.hits("a -a"), "");
+        Due.same("brackets before a part", x.hits("(a b)c"), "3");
+        Due.same("brackets behind a part", x.hits("c(a b)"), "3");
+        Due.same("brackets behind a part", x.hits("a(b|c)"), "3 2");
+        Due.same("brackets behind a part", x.hits("a-(b c)"), "2 0");
     }
 
     private static void matchesAny() {
-        Due.sentence("an any if it matches one of the alls.");
+        Due.sentence("Terms", "an any if it matches one of the alls.");
         Index x = new Index().written("a", "b", "a b", "l");
         Due.same("one all", x.hits("a"), "2 0");
         Due.same("two alls", x.hits("a|b"), "2 1 0");
@@ -337,10 +371,13 @@ public final class QueryTest {
         Due.same("alls of two parts", x.hits("a b|l z"), "2");
         Due.same("alls of two parts", x.hits("z a|b a|l"), "3 2");
         Due.same("an all or what denies it", x.hits("a|-a"), "3 2 1 0");
+        Due.same("brackets behind an all", x.hits("l|(a b)"), "3 2");
+        Due.same("brackets before an all", x.hits("(a b)|l"), "3 2");
+        Due.same("brackets behind an all", x.hits("z|(z|(a|l))"), "3 2 0");
     }
 
     private static void hits() {
-        Due.sentence("Its next HIT is the post with the greatest number less than the bound that is live, not erased, and matches.");
+        Due.sentence("Terms", "Its next HIT is the post with the greatest number less than the bound that is live, not erased, and matches.");
         Index x = new Index().written("a", "a", "b", "a", "b");
         x.searching("a");
         Due.same("the greatest number", x.x().next(0), 3);
@@ -369,7 +406,7 @@ public final class QueryTest {
     }
 
     private static void searchPlaces() {
-        Due.sentence("There are three PLACES for searches, 0 .. 2");
+        Due.sentence("Terms", "There are three PLACES for searches, 0 .. 2");
         Index x = new Index().written("a", "b", "c");
         for (int place = 0; place < 3; place++) {
             Due.same("search", x.begin("" + (char) ('a' + place)), place);
@@ -387,7 +424,7 @@ public final class QueryTest {
     }
 
     private static void mostSearches() {
-        Due.sentence("and at most 24 searches are ever begun.");
+        Due.sentence("Terms", "and at most 24 searches are ever begun.");
         Index x = new Index().written("a");
         x.searching("a").searching("a");
         for (int number = 2; number < 24; number++) {

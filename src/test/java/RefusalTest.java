@@ -120,7 +120,7 @@ public final class RefusalTest {
     }
 
     private static void type() {
-        Due.sentence("A call that is refused changes nothing. (type)");
+        Due.sentence("Terms, for type", "A call that is refused changes nothing.");
         for (char c : new char[] {0, 31, 127, 255, 256 + 'a', 65535}) {
             unchanged("type " + (int) c, RefusalTest::some, x -> x.type(c), false);
             unchanged("type " + (int) c + " on an empty draft", x -> x.written("aa"), x -> x.type(c), false);
@@ -131,7 +131,7 @@ public final class RefusalTest {
     }
 
     private static void quote() {
-        Due.sentence("A call that is refused changes nothing. (quote)");
+        Due.sentence("Terms, for quote", "A call that is refused changes nothing.");
         for (int post : new int[] {24, 25, 5, 23}) {
             unchanged("quote of no post " + post, RefusalTest::some, x -> x.quote(post), -1);
         }
@@ -149,7 +149,7 @@ public final class RefusalTest {
     }
 
     private static void post() {
-        Due.sentence("A call that is refused changes nothing. (post)");
+        Due.sentence("Terms, for post", "A call that is refused changes nothing.");
         for (int author : new int[] {10, 11, -1, Integer.MIN_VALUE, Integer.MAX_VALUE}) {
             unchanged("post by " + author, RefusalTest::some, x -> x.post(author, 5), -1);
             unchanged("post by " + author, RefusalTest::longRun, x -> x.post(author, 5), -1);
@@ -168,7 +168,7 @@ public final class RefusalTest {
     }
 
     private static void erase() {
-        Due.sentence("A call that is refused changes nothing. (erase)");
+        Due.sentence("Terms, for erase", "A call that is refused changes nothing.");
         for (int post : new int[] {24, 25, 5, 23}) {
             unchanged("erase of no post " + post, RefusalTest::some, x -> x.erase(post), false);
         }
@@ -187,7 +187,7 @@ public final class RefusalTest {
     }
 
     private static void searchMalformed() {
-        Due.sentence("A call that is refused changes nothing. (search, malformed)");
+        Due.sentence("Terms, for search, malformed", "A call that is refused changes nothing.");
         for (String bad : new String[] {"", " ", "aa|", "aa -", "\"aa", "aa)", "(b", "b =", "b #", "b,c", "(((((((b)))))))", "=1234567890", "\"aa|b\""}) {
             unchanged("search for " + bad, x -> x.written("aa b", "b").searching("b").typed(bad), x -> x.search(), -1);
             unchanged("search for " + bad + " with no place free", x -> {
@@ -204,7 +204,7 @@ public final class RefusalTest {
     }
 
     private static void searchNoPlace() {
-        Due.sentence("A call that is refused changes nothing. (search, no place is free)");
+        Due.sentence("Terms, for search, no place is free", "A call that is refused changes nothing.");
         unchanged("search", RefusalTest::noPlace, x -> x.search(), -2);
         unchanged("search", x -> {
             noPlace(x);
@@ -214,7 +214,7 @@ public final class RefusalTest {
     }
 
     private static void searchTooMany() {
-        Due.sentence("A call that is refused changes nothing. (search, 24 were begun)");
+        Due.sentence("Terms, for search, 24 were begun", "A call that is refused changes nothing.");
         unchanged("search with one place free", RefusalTest::allBegun, x -> x.search(), -2);
         unchanged("search with three places free", x -> {
             allBegun(x);
@@ -224,7 +224,7 @@ public final class RefusalTest {
     }
 
     private static void noUnits() {
-        Due.sentence("Answers how many; 0 if n is not 1 .. 6. (write and pack)");
+        Due.sentence("Promises 7 and 10", "Answers how many; 0 if n is not 1 .. 6.");
         for (int n : new int[] {0, -1, 7, 8, Integer.MIN_VALUE, Integer.MAX_VALUE}) {
             unchanged("write " + n, RefusalTest::some, x -> x.write(n), 0);
             unchanged("write " + n, RefusalTest::longRun, x -> x.write(n), 0);
@@ -240,7 +240,7 @@ public final class RefusalTest {
     }
 
     private static void nextNone() {
-        Due.sentence("-1 if there is none (the bound stays), or no such place, or no search in it.");
+        Due.sentence("Promise 12", "-1 if there is none (the bound stays), or no such place, or no search in it.");
         unchanged("next with no hit", x -> {
             some(x);
             x.rest(0);
@@ -254,7 +254,7 @@ public final class RefusalTest {
     }
 
     private static void closeNone() {
-        Due.sentence("false if there is no such place or no search in it.");
+        Due.sentence("Promise 14", "false if there is no such place or no search in it.");
         unchanged("close of a free place", RefusalTest::some, x -> x.close(2), false);
         unchanged("close with none open", x -> x.typed("aa"), x -> x.close(0), false);
         for (int place : new int[] {3, 4, -1, Integer.MIN_VALUE, Integer.MAX_VALUE}) {
@@ -263,7 +263,7 @@ public final class RefusalTest {
     }
 
     private static void onlyAsked() {
-        Due.sentence("Nothing is promised beyond the answers and state changes described above");
+        Due.sentence("Not promised", "Nothing is promised beyond the answers and state changes described above");
         unchanged("length", RefusalTest::some, x -> x.length(), 4);
         unchanged("published", RefusalTest::some, x -> x.published(), 3);
         unchanged("left", RefusalTest::some, x -> x.left(0), 1);

@@ -6,6 +6,7 @@ public final class TermsTest {
     private static final String TWELVE = "0 1 2 3 4 5 6 7 8 9 a b";
 
     public static void main(String[] args) {
+        searchesGoOn();
         mostCalls();
         draft();
         wordCharacters();
@@ -34,7 +35,7 @@ public final class TermsTest {
     }
 
     private static void mostCalls() {
-        Due.sentence("An object is used for at most 512 calls after it has been made");
+        Due.sentence("What it is", "An object is used for at most 512 calls after it has been made");
         Index x = new Index().written("a b");
         x.searching("b");
         while (x.calls() < Index.MOST_CALLS - 1) {
@@ -59,8 +60,33 @@ public final class TermsTest {
         Due.same("still within", x.calls() <= Index.MOST_CALLS, true);
     }
 
+    private static void searchesGoOn() {
+        Due.sentence("What it is", "searches that were begun before go on through all this, newest posts first.");
+        Index x = new Index().written("a", "b a", "c", "a").written("a", "a", "b", "a").searching("a");
+        Due.same("next", x.x().next(0), 7);
+        x.packed(2);
+        Due.same("while a segment is rewritten", x.x().next(0), 5);
+        x.written("a").searching("a");
+        Due.same("left of the older search", x.x().left(0), 4);
+        Due.same("left of the newer search", x.x().left(1), 7);
+        x.packed(2);
+        Due.same("form", x.x().form(0), 3);
+        Due.same("next", x.x().next(0), 4);
+        x.x().erase(3);
+        Due.same("next", x.x().next(0), 1);
+        x.written(3, "a").posted("a", "a");
+        Due.same("left before segment 0 is retired", x.x().left(0) + " " + x.x().left(1), "1 6");
+        x.wrote(1);
+        Due.same("left when segment 0 is retired", x.x().left(0) + " " + x.x().left(1), "0 4");
+        Due.same("next of the older search", x.x().next(0), -1);
+        Due.same("the newer search", x.rest(1), "8 7 5 4");
+        x.writeAll();
+        Due.same("a search begun now", x.hits("a"), "13 12 11 10 9 8 7 5 4");
+        Due.same("the older ones", x.rest(0) + x.rest(1), "");
+    }
+
     private static void draft() {
-        Due.sentence("The DRAFT is a text of at most 24 characters (codes 32 .. 126).");
+        Due.sentence("Terms", "The DRAFT is a text of at most 24 characters (codes 32 .. 126).");
         for (int code : new int[] {32, 33, 65, 125, 126}) {
             Index x = new Index();
             Due.same("type " + code, x.x().type((char) code), true);
@@ -86,7 +112,7 @@ public final class TermsTest {
     }
 
     private static void wordCharacters() {
-        Due.sentence("WORD CHARACTERS are the letters, the digits and _ (95).");
+        Due.sentence("Terms", "WORD CHARACTERS are the letters, the digits and _ (95).");
         for (char c = 32; c <= 126; c++) {
             boolean ofWord = Character.isLetterOrDigit(c) || c == '_';
             boolean ofNext = c == '#' || c == '@';
@@ -101,7 +127,7 @@ public final class TermsTest {
     }
 
     private static void tokens() {
-        Due.sentence("A token is a longest run of word characters, and a # or @ directly before it belongs to it.");
+        Due.sentence("Terms", "A token is a longest run of word characters, and a # or @ directly before it belongs to it.");
         tokensOf("");
         tokensOf(" ");
         tokensOf("                        ");
@@ -154,7 +180,7 @@ public final class TermsTest {
     }
 
     private static void capitals() {
-        Due.sentence("Capital letters count as the small ones.");
+        Due.sentence("Terms", "Capital letters count as the small ones.");
         for (char small = 'a'; small <= 'z'; small++) {
             char capital = Character.toUpperCase(small);
             Index x = new Index().written("" + small, "" + capital, "#" + capital, "@x" + capital + "_");
@@ -172,7 +198,7 @@ public final class TermsTest {
     }
 
     private static void tokenNumbers() {
-        Due.sentence("The tokens of a text are counted 0, 1, .. from its beginning");
+        Due.sentence("Terms", "The tokens of a text are counted 0, 1, .. from its beginning");
         Index x = new Index().written("", "", "", "c b a");
         x.packAll();
         // The last post's numbers are 24 + place, so c, b and a have the differences 8, 7 and 6: two pieces each.
@@ -182,7 +208,7 @@ public final class TermsTest {
     }
 
     private static void places() {
-        Due.sentence("the PLACE of a token is its number, but 7 if that is greater.");
+        Due.sentence("Terms", "the PLACE of a token is its number, but 7 if that is greater.");
         Index x = new Index().written(TWELVE);
         String words = "0123456789ab";
         for (int i = 0; i < 11; i++) {
@@ -211,7 +237,7 @@ public final class TermsTest {
     }
 
     private static void mostPosts() {
-        Due.sentence("POSTS are numbered 0, 1, .., at most 24 are ever made");
+        Due.sentence("Terms", "POSTS are numbered 0, 1, .., at most 24 are ever made");
         Index x = new Index();
         for (int number = 0; number < 24; number++) {
             Due.same("post", x.x().post(0, 0), number);
@@ -232,7 +258,7 @@ public final class TermsTest {
     }
 
     private static void authorsAndTimes() {
-        Due.sentence("each has an author 0 .. 9, a time (any int) and a text.");
+        Due.sentence("Terms", "each has an author 0 .. 9, a time (any int) and a text.");
         for (int from = 0; from < 10; from += 5) {
             Index x = new Index();
             for (int author = from; author < from + 5; author++) {
@@ -259,7 +285,7 @@ public final class TermsTest {
     }
 
     private static void waiting() {
-        Due.sentence("A post is WAITING until it is PUBLISHED; it can be ERASED later on.");
+        Due.sentence("Terms", "A post is WAITING until it is PUBLISHED; it can be ERASED later on.");
         Index x = new Index().posted("a", "a");
         for (int unit = 0; unit < 2; unit++) {
             Due.same("erase of a waiting post", x.x().erase(0), false);
@@ -278,7 +304,7 @@ public final class TermsTest {
     }
 
     private static void postsOfSegments() {
-        Due.sentence("SEGMENT g (0 .. 5) are the posts 4 * g to 4 * g + 3.");
+        Due.sentence("Terms", "SEGMENT g (0 .. 5) are the posts 4 * g to 4 * g + 3.");
         Index x = new Index();
         for (int post = 0; post < 24; post++) {
             x.written("" + (char) ('a' + post));
@@ -295,7 +321,7 @@ public final class TermsTest {
     }
 
     private static void begins() {
-        Due.sentence("It BEGINS when the writer does its first unit of work for post 4 * g");
+        Due.sentence("Terms", "It BEGINS when the writer does its first unit of work for post 4 * g");
         for (int g = 0; g < 6; g++) {
             for (String text : new String[] {"", "a b"}) {
                 Index x = new Index().written(4 * g, "a");
@@ -311,7 +337,7 @@ public final class TermsTest {
     }
 
     private static void full() {
-        Due.sentence("it is FULL when its four posts are published");
+        Due.sentence("Terms", "it is FULL when its four posts are published");
         for (int g = 0; g < 6; g++) {
             Index x = new Index().written(4 * g, "").packAll();
             x.posted("", "", "", "a");
@@ -333,7 +359,7 @@ public final class TermsTest {
     }
 
     private static void retired() {
-        Due.sentence("RETIRED as soon as segment g + 3 begins.");
+        Due.sentence("Terms", "RETIRED as soon as segment g + 3 begins.");
         for (int g = 0; g < 3; g++) {
             for (int units = 0; units < 3; units++) {
                 Index x = new Index().written(4 * g, "").packAll();
@@ -357,7 +383,7 @@ public final class TermsTest {
     }
 
     private static void live() {
-        Due.sentence("It is LIVE from its beginning until it is retired; its posts are live, then.");
+        Due.sentence("Terms", "It is LIVE from its beginning until it is retired; its posts are live, then.");
         Index x = new Index().written(12, "a").posted("a");
         Due.same("hits before", x.hits("a"), "11 10 9 8 7 6 5 4 3 2 1 0");
         for (int post = 0; post < 4; post++) {
@@ -381,7 +407,7 @@ public final class TermsTest {
     }
 
     private static void writerOrder() {
-        Due.sentence("THE WRITER takes the waiting posts in order");
+        Due.sentence("Terms", "THE WRITER takes the waiting posts in order");
         Index x = new Index().posted("a b", "c", "", "d");
         String[] after = {"0 0 2 1 1", "0 0 4 2 2", "1 0 4 2 2", "1 0 6 3 3", "2 0 6 3 3", "3 0 6 3 3", "3 0 8 4 4", "4 1 8 4 4"};
         for (int unit = 0; unit < after.length; unit++) {
@@ -394,7 +420,7 @@ public final class TermsTest {
     }
 
     private static void writerUnits() {
-        Due.sentence("a unit of its work is to INDEX the next token of the post (in order), or, if none is left, to publish the post.");
+        Due.sentence("Terms", "a unit of its work is to INDEX the next token of the post (in order), or, if none is left, to publish the post.");
         Index x = new Index().posted("", TWELVE);
         Due.same("the one unit of an empty post", x.x().write(1), 1);
         Due.same("published", x.x().published(), 1);
@@ -418,7 +444,7 @@ public final class TermsTest {
     }
 
     private static void terms() {
-        Due.sentence("A TERM of a live segment is a token that was indexed there");
+        Due.sentence("Terms", "A TERM of a live segment is a token that was indexed there");
         Index x = new Index().posted("a b", "a #a");
         int[] after = {1, 2, 2, 2, 3, 3};
         for (int count : after) {
@@ -437,10 +463,11 @@ public final class TermsTest {
                 "m n o p q r s t u v w x");
         Due.same("the most terms", x.segment(0), "1 96 48 48");
         Due.same("the first and the last of them", x.hits("#a|x"), "3 0");
+        Due.same("none of them", x.hits("y|#x|@x"), "");
     }
 
     private static void postings() {
-        Due.sentence("its POSTINGS are the different pairs of post and place at which it was indexed (published or not yet).");
+        Due.sentence("Terms", "its POSTINGS are the different pairs of post and place at which it was indexed (published or not yet).");
         Index x = new Index().posted("a a a a a a a a a a a a", "a", "b a");
         for (int token = 0; token < 12; token++) {
             x.wrote(1);
@@ -459,7 +486,7 @@ public final class TermsTest {
     }
 
     private static void secondWorkerTakes() {
-        Due.sentence("THE SECOND WORKER takes the full live segment with the least number that is not PACKED");
+        Due.sentence("Terms", "THE SECOND WORKER takes the full live segment with the least number that is not PACKED");
         Index x = new Index().written(12, "a");
         x.packed(2);
         Due.same("forms", forms(x), "3 1 1 -1 -1 -1");
@@ -498,7 +525,7 @@ public final class TermsTest {
     }
 
     private static void secondWorkerUnits() {
-        Due.sentence("a unit of its work is to rewrite the next term of it (in the order in which they were first indexed), or, "
+        Due.sentence("Terms", "a unit of its work is to rewrite the next term of it (in the order in which they were first indexed), or, "
                 + "if none is left, to exchange the segment's form: it is packed then.");
         Index x = new Index().written(4, "");
         Due.same("a segment without terms", x.segment(0), "1 0 0 0");
@@ -521,10 +548,32 @@ public final class TermsTest {
         x.packed(1);
         Due.same("exchanged", x.x().form(0), 3);
         Due.same("nothing is left", x.x().pack(1), 0);
+        Due.same("the first and the last term", x.hits("#a|x"), "3 0");
+        Due.same("none of the terms", x.hits("y|#x|@x"), "");
+        hitsWhilePacked();
+    }
+
+    /** What a post matches is the same before, between and behind the units that pack its segment. */
+    private static void hitsWhilePacked() {
+        for (int units = 0; units <= 4; units++) {
+            Index x = new Index().written("a b a", "b a", "c c c c c c c c a c", "").searching("a").packed(units);
+            Due.same("form", x.x().form(0), units == 0 ? 1 : units < 4 ? 2 : 3);
+            Due.same("hits of a word", x.hits("a"), "2 1 0");
+            Due.same("hits of no word", x.hits("-a"), "3");
+            Due.same("hits of a row", x.hits("\"a b\""), "0");
+            Due.same("hits of a row", x.hits("\"b a\""), "1 0");
+            Due.same("hits at place 7", x.hits("\"c a\""), "2");
+            Due.same("hits behind place 7", x.hits("\"a c\""), "");
+            Due.same("hits of a row of eight", x.hits("\"c c c c c c c c\""), "2");
+            Due.same("quote", x.x().quote(2), 19);
+            x.x().clear();
+            x.x().erase(1);
+            Due.same("hits of the search begun before", x.rest(0), "2 0");
+        }
     }
 
     private static void rewrittenIsLost() {
-        Due.sentence("(When the segment is retired meanwhile, what was rewritten is lost.)");
+        Due.sentence("Terms", "(When the segment is retired meanwhile, what was rewritten is lost.)");
         for (int units = 1; units < 4; units++) {
             Index x = new Index().written(12, "a b c").packed(units).posted("");
             Due.same("forms", forms(x), "2 1 1 -1 -1 -1");
@@ -537,11 +586,14 @@ public final class TermsTest {
             x.packed(1);
             Due.same("forms", forms(x), "4 3 1 0 -1 -1");
             Due.same("the rest", x.x().pack(6), 4);
+            x.written(3, "a b c");
+            Due.same("forms", forms(x), "4 3 3 1 -1 -1");
+            Due.same("a full segment that begins later is rewritten wholly", x.x().pack(6), 4);
         }
     }
 
     private static void slices() {
-        Due.sentence("Not packed: for each term slices of 2, then 4, then 8, 8, .. cells, as many as its postings need");
+        Due.sentence("Terms", "Not packed: for each term slices of 2, then 4, then 8, 8, .. cells, as many as its postings need");
         Index x = new Index().posted("a a a a a a a a", "a a a a a a a a", "a a a a a a a a", "a a a a a a a a");
         int seen = 0;
         for (int unit = 0; unit < 36; unit++) {
@@ -551,6 +603,10 @@ public final class TermsTest {
             Due.same("size with " + seen + " postings of one term", x.x().size(0), cells(seen));
         }
         Due.same("postings", x.x().postings(0), 32);
+        for (int g = 1; g < 6; g++) {
+            Index later = new Index().written(4 * g, "").written("a a a a a a", "a", "b", "");
+            Due.same("segment " + g, later.segment(g), "1 16 2 8");
+        }
         Index two = new Index().written("a a b a b b");
         Due.same("each term has slices of its own", two.x().size(0), 6 + 6);
         two.x().erase(0);
@@ -569,7 +625,7 @@ public final class TermsTest {
     }
 
     private static void pieces() {
-        Due.sentence("the difference of each to the one before (32 for the first) takes 1 piece if it is less than 4, 2 if it is "
+        Due.sentence("Terms", "the difference of each to the one before (32 for the first) takes 1 piece if it is less than 4, 2 if it is "
                 + "less than 16, else 3; all pieces count.");
         // A text in which only its last token is a: the others are words of their own that stand nowhere else.
         for (int post = 0; post < 4; post++) {
@@ -584,6 +640,11 @@ public final class TermsTest {
             }
         }
         differences();
+        for (int g = 1; g < 6; g++) {
+            Index later = new Index().written(4 * g, "").packAll().written("a", "b b", "", "b a").packAll();
+            // The numbers of a are 25 and 0, those of b 24, 9 and 8, however many posts there were before.
+            Due.same("packed segment " + g, later.segment(g), "3 " + (2 + 3 + 2 + 2 + 1) + " 2 5");
+        }
         Due.same("32 differences of 1", packedSize("a a a a a a a a", "a a a a a a a a", "a a a a a a a a", "a a a a a a a a"), 32);
         Due.same("four differences of 8", packedSize("a", "a", "a", "a"), 8);
         Due.same("8 and 24", packedSize("a", "", "", "a"), 5);

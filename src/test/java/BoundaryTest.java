@@ -5,7 +5,8 @@ public final class BoundaryTest {
     // Among the numbers that are far off are some that are small ones if only their low bits are kept, or once multiplied.
     private static final int[] NO_POSTS = {-1, -24, 24, 25, 256, 65536, 1 << 30, Integer.MIN_VALUE, Integer.MAX_VALUE};
     private static final int[] NO_PLACES = {-1, -3, 3, 4, 256, 65536, 1 << 30, Integer.MIN_VALUE, Integer.MAX_VALUE};
-    private static final int[] NO_UNITS = {0, -1, -6, 7, 8, 257, 65537, (1 << 30) + 1, Integer.MIN_VALUE, Integer.MAX_VALUE};
+    private static final int[] NO_UNITS = {0, -1, -6, 7, 8, 257, 65537, (1 << 30) + 1, Integer.MIN_VALUE,
+            Integer.MAX_VALUE};
     private static final int[] NO_SEGMENTS = {-1, -3, 6, 7, 256, 65536, 1 << 30, Integer.MIN_VALUE, Integer.MAX_VALUE};
     private static final int[] NO_AUTHORS = {-1, 10, 11, 256, 65536, 1 << 30, Integer.MIN_VALUE, Integer.MAX_VALUE};
 
@@ -46,7 +47,8 @@ public final class BoundaryTest {
 
     private static void newObject() {
         Due.sentence("Promise 1", "PostIndex(): An empty draft, no posts, no searches.");
-        String nothing = "0 0 | -1 -1 -1 -1 | -1 -1 -1 -1 | -1 -1 -1 -1 | -1 -1 -1 -1 | -1 -1 -1 -1 | -1 -1 -1 -1 / -1 / -1 / -1";
+        String nothing = "0 0 | -1 -1 -1 -1 | -1 -1 -1 -1 | -1 -1 -1 -1 | -1 -1 -1 -1 | -1 -1 -1 -1 | -1 -1 -1 -1 / -1 "
+                + "/ -1 / -1";
         Index x = new Index();
         Due.same("state", x.state(), nothing);
         Due.same("search", x.x().search(), -1);
@@ -89,8 +91,9 @@ public final class BoundaryTest {
     }
 
     private static void quoteRoom() {
-        Due.sentence("Promise 3", "Appends the beginning of the text of a post to the draft, as much as there is room for, and answers how many "
-                + "characters that was.");
+        Due.sentence("Promise 3",
+                "Appends the beginning of the text of a post to the draft, as much as there is room for, and answers "
+                + "how many characters that was.");
         for (int before = 0; before <= 24; before++) {
             String typed = "xxxxxxxxxxxxxxxxxxxxxxx_".substring(24 - before);
             int due = Math.min(6, 24 - before);
@@ -192,7 +195,8 @@ public final class BoundaryTest {
     }
 
     private static void postFromEmptyDraft() {
-        Due.sentence("Promise 6", "Makes the draft a post, which waits; the draft is empty then (it may be empty before).");
+        Due.sentence("Promise 6",
+                "Makes the draft a post, which waits; the draft is empty then (it may be empty before).");
         Index x = new Index();
         Due.same("post of an empty draft", x.x().post(0, 0), 0);
         Due.same("length", x.x().length(), 0);
@@ -352,7 +356,8 @@ public final class BoundaryTest {
     }
 
     private static void packFewer() {
-        Due.sentence("Promise 10", "The second worker does n units of work, or fewer, if there is no segment for it any more.");
+        Due.sentence("Promise 10",
+                "The second worker does n units of work, or fewer, if there is no segment for it any more.");
         for (int n = 1; n <= 6; n++) {
             Index x = new Index();
             Due.same("with no segment", x.x().pack(n), 0);
@@ -408,7 +413,8 @@ public final class BoundaryTest {
     }
 
     private static void searchFreePlace() {
-        Due.sentence("Promise 11", "in the free place with the least number, and answers that; the draft is empty then.");
+        Due.sentence("Promise 11",
+                "in the free place with the least number, and answers that; the draft is empty then.");
         for (int free = 0; free < 8; free++) {
             Index x = new Index().written("a").searching("b").searching("b").searching("b");
             for (int place = 0; place < 3; place++) {
@@ -517,7 +523,9 @@ public final class BoundaryTest {
     }
 
     private static void left() {
-        Due.sentence("Promise 13", "How many hits the search in a place has left: how often next() would answer a post, if nothing else happened between.");
+        Due.sentence("Promise 13",
+                "How many hits the search in a place has left: how often next() would answer a post, if nothing else "
+                + "happened between.");
         Index x = new Index().written(24, "a");
         x.searching("a").searching("-a").searching("a|-a");
         Due.same("the most", x.x().left(0), 12);
@@ -587,8 +595,9 @@ public final class BoundaryTest {
     }
 
     private static void form() {
-        Due.sentence("Promise 15", "-1 if segment g has not begun (or g is not 0 .. 5), 0 it is live and not full, 1 full and not packed, 2 the same, "
-                + "and some term of it was rewritten, 3 packed (and live), 4 retired.");
+        Due.sentence("Promise 15",
+                "-1 if segment g has not begun (or g is not 0 .. 5), 0 it is live and not full, 1 full and not packed, "
+                + "2 the same, and some term of it was rewritten, 3 packed (and live), 4 retired.");
         Index x = new Index();
         Due.same("not begun", x.x().form(0), -1);
         x.posted("a", "b", "", "");
@@ -670,7 +679,8 @@ public final class BoundaryTest {
     }
 
     private static void postings() {
-        Due.sentence("Promise 18", "How many postings the terms of a live segment have together; -1 if it is not live.");
+        Due.sentence("Promise 18",
+                "How many postings the terms of a live segment have together; -1 if it is not live.");
         noSegments("postings", PostIndex::postings);
         Index x = new Index().written(12, "a b");
         Due.same("not begun", x.x().postings(3), -1);

@@ -47,10 +47,11 @@ public final class QueryTest {
     }
 
     private static void spaces() {
-        Due.sentence("Terms", "A QUERY is a text, read in pieces from left to right; spaces between pieces are left out.");
+        Due.sentence("Terms",
+                "A QUERY is a text, read in pieces from left to right; spaces between pieces are left out.");
         wellFormed("a b", "a          b", " a", "a ", " a ", "a                      b", "                       a",
-                "a                       ", "a | b", "- a", "- - a", "-  ( a )", "( a )", "\" a \"", "\"a   b\"", " =1 ", "=1 <2 >3",
-                "( ( ( ( ( a ) ) ) ) )", "a |- b");
+                "a                       ", "a | b", "- a", "- - a", "-  ( a )", "( a )", "\" a \"", "\"a   b\"",
+                " =1 ", "=1 <2 >3", "( ( ( ( ( a ) ) ) ) )", "a |- b");
         malformed("# a", "@ a", "= 1", "< 1", "> 1", "=1 23456789 0 |");
         Index x = new Index().written("ab", "a b", "a", "#a");
         Due.same("hits of ab", x.hits("ab"), "0");
@@ -67,7 +68,8 @@ public final class QueryTest {
         for (char c : WORD_CHARACTERS.toCharArray()) {
             wellFormed("" + c, "#" + c, "@" + c, "a" + c, c + "a");
         }
-        wellFormed("aaaaaaaaaaaaaaaaaaaaaaaa", "#aaaaaaaaaaaaaaaaaaaaaaa", "@aaaaaaaaaaaaaaaaaaaaaaa", "a#b", "a@b", "#a#b", "@a#b");
+        wellFormed("aaaaaaaaaaaaaaaaaaaaaaaa", "#aaaaaaaaaaaaaaaaaaaaaaa", "@aaaaaaaaaaaaaaaaaaaaaaa", "a#b", "a@b",
+                "#a#b", "@a#b");
         malformed("#", "@", "##a", "#@a", "@#a", "a#", "a@", "a#@b", "#-a", "@\"a\"", "#(a)");
         Index x = new Index().written("ab", "a #b", "a b", "abcdefghijklmnopqrstuvwx");
         Due.same("as many as follow", x.hits("ab"), "0");
@@ -79,16 +81,19 @@ public final class QueryTest {
     }
 
     private static void filterPieces() {
-        Due.sentence("Terms", "a filter: one of = < > and directly behind it one or more digits, as many as follow, at most nine");
+        Due.sentence("Terms",
+                "a filter: one of = < > and directly behind it one or more digits, as many as follow, at most nine");
         for (String sign : new String[] {"=", "<", ">"}) {
             String digits = "";
             for (int count = 1; count <= 9; count++) {
                 digits += 10 - count;
-                wellFormed(sign + digits, "-" + sign + digits, "(" + sign + digits + ")", sign + digits + "a", sign + digits + "_");
+                wellFormed(sign + digits, "-" + sign + digits, "(" + sign + digits + ")", sign + digits + "a",
+                        sign + digits + "_");
                 malformed(sign + " " + digits, sign + "-" + digits, sign + "a" + digits);
             }
             wellFormed(sign + "0", sign + "9", sign + "000000000", sign + "999999999", sign + "1" + sign + "2");
-            malformed(sign, sign + "a", sign + "_1", sign + "#1", sign + sign + "1", sign + "\"1\"", sign + "(1)", "1" + sign);
+            malformed(sign, sign + "a", sign + "_1", sign + "#1", sign + sign + "1", sign + "\"1\"", sign + "(1)",
+                    "1" + sign);
         }
         malformed("<=1", ">=1", "<>1", "=<1");
         Index x = new Index();
@@ -108,18 +113,21 @@ public final class QueryTest {
 
     private static void singleCharacters() {
         Due.sentence("Terms", "and the single characters | - \" ( ).");
-        wellFormed("a|b", "a-b", "a\"b\"", "a(b)", "\"a\"\"b\"", "(a)(b)", "a|-b", "--a", "((a))", "\"a\"|\"b\"", "(a)|(b)", "-\"a\"", "-(a)",
-                "-=1", "a-b|c-d");
+        wellFormed("a|b", "a-b", "a\"b\"", "a(b)", "\"a\"\"b\"", "(a)(b)", "a|-b", "--a", "((a))", "\"a\"|\"b\"",
+                "(a)|(b)", "-\"a\"", "-(a)", "-=1", "a-b|c-d");
         malformed("||", "a||b", "--", "a--", "\"\"", "()", ")(", "a)(b");
     }
 
     private static void forms() {
-        Due.sentence("Terms", "any: one all, or several with | between them. all: one or more parts. part: a one, or - before a part. "
-                + "one: a word; or \" and one or more words and \"; or ( and any and ); or a filter.");
-        wellFormed("a", "a|b", "a|b|c|d|e|f|g|h|i|j|k|l", "a b c d e f g h i j k l", "-a", "-----------------------a", "\"a\"",
-                "\"a b\"", "\"a b c d e f g h i j k\"", "(a)", "(a|b)", "(a b)", "(-a)", "(\"a\")", "(=1)", "((a))", "=1", "<1", ">1");
-        malformed("|", "|a", "a|", "a| |b", "|a|b", "a|b|", "(|a)", "(a|)", "(a||b)", "-", "a-", "-|a", "a|-", "a -|b", "(-)", "(a-)",
-                "-)", "-(", "(a", "a)", "((a)", "(a))", "(", ")", "( )", "a()", "()a", "-()", "\"", "\" \"", "\"a", "a\"", "\"a\"b\"",
+        Due.sentence("Terms",
+                "any: one all, or several with | between them. all: one or more parts. part: a one, or - before a "
+                + "part. one: a word; or \" and one or more words and \"; or ( and any and ); or a filter.");
+        wellFormed("a", "a|b", "a|b|c|d|e|f|g|h|i|j|k|l", "a b c d e f g h i j k l", "-a", "-----------------------a",
+                "\"a\"", "\"a b\"", "\"a b c d e f g h i j k\"", "(a)", "(a|b)", "(a b)", "(-a)", "(\"a\")", "(=1)",
+                "((a))", "=1", "<1", ">1");
+        malformed("|", "|a", "a|", "a| |b", "|a|b", "a|b|", "(|a)", "(a|)", "(a||b)", "-", "a-", "-|a", "a|-", "a -|b",
+                "(-)", "(a-)", "-)", "-(", "(a", "a)", "((a)", "(a))", "(", ")", "( )", "a()", "()a", "-()", "\"",
+                "\" \"", "\"a", "a\"", "\"a\"b\"",
                 "\"a\"\"", "-----------------------", "a|\"\"", "(\"a)\"", "\"(a\")");
     }
 
@@ -171,8 +179,9 @@ public final class QueryTest {
     private static void nothingFollows() {
         Due.sentence("Terms", "a # @ = < > without what must follow, ");
         for (char c : "#@=<>".toCharArray()) {
-            malformed("" + c, "a" + c, "a " + c, c + " ", c + " a", c + " 1", c + "|a", "a|" + c, c + "-a", "-" + c, "(" + c + ")", c + "(a)",
-                    "\"" + c + "\"", "\"a" + c + "\"", c + "" + c, c + "" + c + "1", "                       " + c);
+            malformed("" + c, "a" + c, "a " + c, c + " ", c + " a", c + " 1", c + "|a", "a|" + c, c + "-a", "-" + c,
+                    "(" + c + ")", c + "(a)", "\"" + c + "\"", "\"a" + c + "\"", c + "" + c, c + "" + c + "1",
+                    "                       " + c);
         }
         malformed("=a", "<a", ">a", "=#1", "<@1", ">_");
     }
@@ -181,8 +190,9 @@ public final class QueryTest {
         Due.sentence("Terms", "ten digits, ");
         for (String sign : new String[] {"=", "<", ">"}) {
             wellFormed(sign + "123456789", sign + "000000000", sign + "123456789 0", sign + "123456789a0");
-            malformed(sign + "1234567890", sign + "0000000000", sign + "0000000001", sign + "9999999999", sign + "12345678901",
-                    sign + "1234567890a", sign + "00000000000000000000001", "(" + sign + "1234567890)", "a " + sign + "1234567890");
+            malformed(sign + "1234567890", sign + "0000000000", sign + "0000000001", sign + "9999999999",
+                    sign + "12345678901", sign + "1234567890a", sign + "00000000000000000000001",
+                    "(" + sign + "1234567890)", "a " + sign + "1234567890");
         }
         // Digits that are no filter are a word, however many they are.
         wellFormed("1234567890", "#1234567890", "123456789012345678901234", "\"1234567890\"");
@@ -203,15 +213,18 @@ public final class QueryTest {
 
     private static void openBrackets() {
         Due.sentence("Terms", "or has more than six ( open at a time, is MALFORMED.");
-        String[] opens = {"", "(", "((", "(((", "((((", "(((((", "((((((", "(((((((", "((((((((", "(((((((((", "((((((((((", "((((((((((("};
+        String[] opens = {"", "(", "((", "(((", "((((", "(((((", "((((((", "(((((((", "((((((((", "(((((((((",
+                "((((((((((", "((((((((((("};
         for (int open = 1; open < opens.length; open++) {
             String closes = opens[open].replace('(', ')');
             formed(open <= 6, opens[open] + "a" + closes);
             malformed(opens[open], opens[open] + "a", closes, "a" + closes);
         }
-        wellFormed("((((((a))))))((((a))))", "(((a)))(((a)))(((a)))", "(a)(a)(a)(a)(a)(a)(a)(a)", "(((((a)(a)(a)(a)))))",
-                "((((((a)(a)(a)(a))))))", "(((((a)|(a)|(a)|(a)))))", "-(-(-(-(-(-(-a))))))", "((((((a|a))))))(a)");
-        malformed("((((((a(a)))))))", "((((((a)(((a))))))))", "-(-(-(-(-(-(-(a)))))))", "(a)(((((((a)))))))", "((((((a|(a)))))))");
+        wellFormed("((((((a))))))((((a))))", "(((a)))(((a)))(((a)))", "(a)(a)(a)(a)(a)(a)(a)(a)",
+                "(((((a)(a)(a)(a)))))", "((((((a)(a)(a)(a))))))", "(((((a)|(a)|(a)|(a)))))", "-(-(-(-(-(-(-a))))))",
+                "((((((a|a))))))(a)");
+        malformed("((((((a(a)))))))", "((((((a)(((a))))))))", "-(-(-(-(-(-(-(a)))))))", "(a)(((((((a)))))))",
+                "((((((a|(a)))))))");
         Index x = new Index().written("a", "b", "a b", "");
         Due.same("hits in six brackets", x.hits("((((((a))))))"), "2 0");
         Due.same("hits in six brackets with -", x.hits("-(-(-(-(-(-(a b))))))"), "2");
@@ -249,7 +262,9 @@ public final class QueryTest {
     }
 
     private static void matchesRow() {
-        Due.sentence("Terms", "words in \" if there is a number p so that the first one has place p in the post, the second one place p + 1, and so on");
+        Due.sentence("Terms",
+                "words in \" if there is a number p so that the first one has place p in the post, the second one "
+                + "place p + 1, and so on");
         Index x = new Index().written("a b c", "a c b", "b c", "a a b");
         Due.same("one word", x.hits("\"a\""), "3 1 0");
         Due.same("two words", x.hits("\"a b\""), "3 0");
@@ -259,7 +274,8 @@ public final class QueryTest {
         Due.same("the same word three times", x.hits("\"a a a\""), "");
         Due.same("one more than there are", x.hits("\"a b c c\""), "");
         Due.same("the last and the first", x.hits("\"c a\""), "");
-        Index far = new Index().written("0 1 2 3 4 5 6 7 8 9 x x", "x x x x x x x x x x x x", "x x x x x x x", "x x x x x x x x");
+        Index far = new Index().written("0 1 2 3 4 5 6 7 8 9 x x", "x x x x x x x x x x x x", "x x x x x x x",
+                "x x x x x x x x");
         Due.same("places 6 and 7", far.hits("\"6 7\""), "0");
         Due.same("place 6 and a later token", far.hits("\"6 x\""), "0");
         Due.same("place 7 and none behind it", far.hits("\"7 8\""), "");
@@ -377,7 +393,9 @@ public final class QueryTest {
     }
 
     private static void hits() {
-        Due.sentence("Terms", "Its next HIT is the post with the greatest number less than the bound that is live, not erased, and matches.");
+        Due.sentence("Terms",
+                "Its next HIT is the post with the greatest number less than the bound that is live, not erased, and "
+                + "matches.");
         Index x = new Index().written("a", "a", "b", "a", "b");
         x.searching("a");
         Due.same("the greatest number", x.x().next(0), 3);

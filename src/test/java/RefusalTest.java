@@ -24,7 +24,8 @@ public final class RefusalTest {
     }
 
     /** The call is made twice, so that what it might count or toggle is seen as well. */
-    private static void unchanged(String what, Consumer<Index> before, Function<PostIndex, Object> call, Object answer) {
+    private static void unchanged(String what, Consumer<Index> before, Function<PostIndex, Object> call,
+            Object answer) {
         for (int times = 1; times <= 2; times++) {
             Index plain = new Index();
             Index tried = new Index();
@@ -43,10 +44,12 @@ public final class RefusalTest {
         for (int place = 0; place < 3; place++) {
             seen.append(" next ").append(x.x().next(place));
         }
-        seen.append(" write ").append(x.x().write(2)).append(" pack ").append(x.x().pack(1)).append('\n').append(x.state());
+        seen.append(" write ").append(x.x().write(2)).append(" pack ").append(x.x().pack(1));
+        seen.append('\n').append(x.state());
         // What the draft holds is seen as a post if one can be made, and otherwise as a query.
         seen.append("\npost ").append(x.x().post(3, 7)).append(" search ").append(x.x().search());
-        seen.append(" write ").append(x.x().write(6)).append(x.x().write(6)).append(x.x().write(6)).append('\n').append(x.state());
+        seen.append(" write ").append(x.x().write(6)).append(x.x().write(6)).append(x.x().write(6));
+        seen.append('\n').append(x.state());
         x.x().clear();
         for (int post = 0; post < 24; post++) {
             seen.append(' ').append(x.x().quote(post));
@@ -188,7 +191,8 @@ public final class RefusalTest {
 
     private static void searchMalformed() {
         Due.sentence("Terms, for search, malformed", "A call that is refused changes nothing.");
-        for (String bad : new String[] {"", " ", "aa|", "aa -", "\"aa", "aa)", "(b", "b =", "b #", "b,c", "(((((((b)))))))", "=1234567890", "\"aa|b\""}) {
+        for (String bad : new String[] {"", " ", "aa|", "aa -", "\"aa", "aa)", "(b", "b =", "b #", "b,c",
+                "(((((((b)))))))", "=1234567890", "\"aa|b\""}) {
             unchanged("search for " + bad, x -> x.written("aa b", "b").searching("b").typed(bad), x -> x.search(), -1);
             unchanged("search for " + bad + " with no place free", x -> {
                 noPlace(x);
@@ -228,7 +232,8 @@ public final class RefusalTest {
         for (int n : new int[] {0, -1, 7, 8, Integer.MIN_VALUE, Integer.MAX_VALUE}) {
             unchanged("write " + n, RefusalTest::some, x -> x.write(n), 0);
             unchanged("write " + n, RefusalTest::longRun, x -> x.write(n), 0);
-            unchanged("write " + n + " before a segment begins", x -> x.written(12, "aa").posted("b"), x -> x.write(n), 0);
+            unchanged("write " + n + " before a segment begins", x -> x.written(12, "aa").posted("b"), x -> x.write(n),
+                    0);
             unchanged("pack " + n, RefusalTest::longRun, x -> x.pack(n), 0);
             unchanged("pack " + n + " on a full segment", x -> x.written(4, "aa b"), x -> x.pack(n), 0);
         }

@@ -1,5 +1,7 @@
 import java.util.Arrays;
 import java.util.HashSet;
+import java.util.List;
+import java.util.function.ToIntFunction;
 
 /** One test for each sentence of "Terms", and of what stands before it, that names a boundary case. */
 public final class TermsTest {
@@ -58,6 +60,16 @@ public final class TermsTest {
         x.writeAll();
         Due.same("hits after 480 calls", x.hits("late =1 >1 <3"), "0");
         Due.same("still within", x.calls() <= Index.MOST_CALLS, true);
+        List<ToIntFunction<PostIndex>> asked = List.of(PostIndex::length, PostIndex::published, y -> y.write(1),
+                y -> y.pack(6), y -> y.left(0), y -> y.next(1), y -> y.form(0), y -> y.size(0), y -> y.terms(0),
+                y -> y.postings(0));
+        int[] due = {2, 1, 0, 0, 1, -1, 0, 4, 2, 2};
+        for (int i = 0; i < due.length; i++) {
+            x = new Index().written("a b").searching("a").typed("cd");
+            while (x.calls() < Index.MOST_CALLS) {
+                Due.same("question " + i + " as call " + x.calls(), asked.get(i).applyAsInt(x.x()), due[i]);
+            }
+        }
     }
 
     private static void searchesGoOn() {
@@ -93,7 +105,8 @@ public final class TermsTest {
             Due.same("length", x.x().length(), 1);
         }
         // The last ones are a small letter if only their low byte or seven bits are looked at.
-        for (int code : new int[] {0, 9, 10, 31, 127, 128, 160, 255, 256, 65535, 256 + 'a', 128 + 'a', 65536 - 256 + 'a'}) {
+        for (int code : new int[] {0, 9, 10, 31, 127, 128, 160, 255, 256, 65535, 256 + 'a', 128 + 'a',
+                65536 - 256 + 'a'}) {
             Index x = new Index();
             Due.same("type " + code, x.x().type((char) code), false);
             Due.same("length", x.x().length(), 0);
@@ -127,7 +140,8 @@ public final class TermsTest {
     }
 
     private static void tokens() {
-        Due.sentence("Terms", "A token is a longest run of word characters, and a # or @ directly before it belongs to it.");
+        Due.sentence("Terms",
+                "A token is a longest run of word characters, and a # or @ directly before it belongs to it.");
         tokensOf("");
         tokensOf(" ");
         tokensOf("                        ");
@@ -331,7 +345,8 @@ public final class TermsTest {
                 Due.same("no unit", x.x().write(0) + x.x().write(7), 0);
                 Due.same("form of " + g + " before the first unit", x.segment(g), "-1 -1 -1 -1");
                 x.wrote(1);
-                Due.same("form of " + g + " after the first unit", x.segment(g), text.isEmpty() ? "0 0 0 0" : "0 2 1 1");
+                Due.same("form of " + g + " after the first unit", x.segment(g),
+                        text.isEmpty() ? "0 0 0 0" : "0 2 1 1");
             }
         }
     }
@@ -409,7 +424,8 @@ public final class TermsTest {
     private static void writerOrder() {
         Due.sentence("Terms", "THE WRITER takes the waiting posts in order");
         Index x = new Index().posted("a b", "c", "", "d");
-        String[] after = {"0 0 2 1 1", "0 0 4 2 2", "1 0 4 2 2", "1 0 6 3 3", "2 0 6 3 3", "3 0 6 3 3", "3 0 8 4 4", "4 1 8 4 4"};
+        String[] after = {"0 0 2 1 1", "0 0 4 2 2", "1 0 4 2 2", "1 0 6 3 3", "2 0 6 3 3", "3 0 6 3 3", "3 0 8 4 4",
+                "4 1 8 4 4"};
         for (int unit = 0; unit < after.length; unit++) {
             x.wrote(1);
             Due.same("published and segment after unit " + unit, x.x().published() + " " + x.segment(0), after[unit]);
@@ -420,7 +436,9 @@ public final class TermsTest {
     }
 
     private static void writerUnits() {
-        Due.sentence("Terms", "a unit of its work is to INDEX the next token of the post (in order), or, if none is left, to publish the post.");
+        Due.sentence("Terms",
+                "a unit of its work is to INDEX the next token of the post (in order), or, if none is left, to publish "
+                + "the post.");
         Index x = new Index().posted("", TWELVE);
         Due.same("the one unit of an empty post", x.x().write(1), 1);
         Due.same("published", x.x().published(), 1);
@@ -467,7 +485,9 @@ public final class TermsTest {
     }
 
     private static void postings() {
-        Due.sentence("Terms", "its POSTINGS are the different pairs of post and place at which it was indexed (published or not yet).");
+        Due.sentence("Terms",
+                "its POSTINGS are the different pairs of post and place at which it was indexed (published or not "
+                + "yet).");
         Index x = new Index().posted("a a a a a a a a a a a a", "a", "b a");
         for (int token = 0; token < 12; token++) {
             x.wrote(1);
@@ -525,8 +545,9 @@ public final class TermsTest {
     }
 
     private static void secondWorkerUnits() {
-        Due.sentence("Terms", "a unit of its work is to rewrite the next term of it (in the order in which they were first indexed), or, "
-                + "if none is left, to exchange the segment's form: it is packed then.");
+        Due.sentence("Terms",
+                "a unit of its work is to rewrite the next term of it (in the order in which they were first indexed), "
+                + "or, if none is left, to exchange the segment's form: it is packed then.");
         Index x = new Index().written(4, "");
         Due.same("a segment without terms", x.segment(0), "1 0 0 0");
         x.packed(1);
@@ -593,7 +614,8 @@ public final class TermsTest {
     }
 
     private static void slices() {
-        Due.sentence("Terms", "Not packed: for each term slices of 2, then 4, then 8, 8, .. cells, as many as its postings need");
+        Due.sentence("Terms",
+                "Not packed: for each term slices of 2, then 4, then 8, 8, .. cells, as many as its postings need");
         Index x = new Index().posted("a a a a a a a a", "a a a a a a a a", "a a a a a a a a", "a a a a a a a a");
         int seen = 0;
         for (int unit = 0; unit < 36; unit++) {
@@ -625,8 +647,9 @@ public final class TermsTest {
     }
 
     private static void pieces() {
-        Due.sentence("Terms", "the difference of each to the one before (32 for the first) takes 1 piece if it is less than 4, 2 if it is "
-                + "less than 16, else 3; all pieces count.");
+        Due.sentence("Terms",
+                "the difference of each to the one before (32 for the first) takes 1 piece if it is less than 4, 2 if "
+                + "it is less than 16, else 3; all pieces count.");
         // A text in which only its last token is a: the others are words of their own that stand nowhere else.
         for (int post = 0; post < 4; post++) {
             for (int place = 0; place < 8; place++) {
@@ -645,7 +668,8 @@ public final class TermsTest {
             // The numbers of a are 25 and 0, those of b 24, 9 and 8, however many posts there were before.
             Due.same("packed segment " + g, later.segment(g), "3 " + (2 + 3 + 2 + 2 + 1) + " 2 5");
         }
-        Due.same("32 differences of 1", packedSize("a a a a a a a a", "a a a a a a a a", "a a a a a a a a", "a a a a a a a a"), 32);
+        Due.same("32 differences of 1", packedSize("a a a a a a a a", "a a a a a a a a", "a a a a a a a a",
+                "a a a a a a a a"), 32);
         Due.same("four differences of 8", packedSize("a", "a", "a", "a"), 8);
         Due.same("8 and 24", packedSize("a", "", "", "a"), 5);
         Due.same("no term, no piece", packedSize("", "", "", ""), 0);

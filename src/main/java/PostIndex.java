@@ -138,11 +138,13 @@ public final class PostIndex {
             return -1;
         }
         Search asked = searches[place];
-        int hit = hitBelow(asked.query, asked.bound);
-        if (hit >= 0) {
-            asked.bound = hit;
+        for (int post = asked.bound - 1; post >= 0; post--) {
+            if (isHit(asked.query, post)) {
+                asked.bound = post;
+                return post;
+            }
         }
-        return hit;
+        return -1;
     }
 
     public int left(int place) {
@@ -245,15 +247,6 @@ public final class PostIndex {
         for (int g = 0; g < segmentsBegun; g++) {
             if (isLive(g) && isFull(g) && !segments[g].packed) {
                 return g;
-            }
-        }
-        return -1;
-    }
-
-    private int hitBelow(Query query, int bound) {
-        for (int post = bound - 1; post >= 0; post--) {
-            if (isHit(query, post)) {
-                return post;
             }
         }
         return -1;
